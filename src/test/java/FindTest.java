@@ -229,6 +229,9 @@ final class FindTest {
         found("1-2", "b", "ab");
         found("0-2 0-1 1-2", "(a|ab)(b|)", "ab");
         found("0-1 0-0", "(|a)a", "a");
+        found("0-1", "a(?:b*c)?", "abbd");
+        found("0-4", "a(?:b*c)?", "abbc");
+        found("1-2", "aab|a", "caac");
     }
 
     private static void countsInOrder() {
@@ -266,6 +269,10 @@ final class FindTest {
         found("0-2 2-2", "(a|){3}", "aa");
         found("0-0 -", "()*", "a");
         found("0-0 0-0", "(){2,}", "a");
+        found("0-3", "(?:b*?)*", "bbb");
+        found("0-4 3-4", "(.*?)*", "aaba");
+        found("0-2 -", "(?:()*a)+", "aa");
+        found("0-1 0-1 -", "(|()*c)+", "c");
     }
 
     private static void groupsCatch() {
