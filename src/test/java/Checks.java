@@ -4,7 +4,11 @@ final class Checks {
         void make();
     }
 
+    /** Every character that a line may have. */
+    static final String ALL = "\n" + signs(32, 126);
+
     private final String name;
+    private String sentence = "";
     private int checks;
     private int wrong;
 
@@ -12,11 +16,16 @@ final class Checks {
         this.name = name;
     }
 
+    /** The words of the document that are broken if a check from here on fails. */
+    void about(String newSentence) {
+        sentence = " (" + newSentence + ")";
+    }
+
     void equal(String what, Object due, Object got) {
         checks++;
         if (!due.equals(got)) {
             wrong++;
-            System.out.println(name + ": " + what + " answered " + got + ", due is " + due);
+            System.out.println(name + ": " + what + " answered " + got + ", due is " + due + sentence);
         }
     }
 
@@ -35,6 +44,69 @@ final class Checks {
         if (wrong != 0 || checks == 0) {
             System.exit(1);
         }
+    }
+
+    void size(int due, String pattern) {
+        PatternMachine x = new PatternMachine();
+        type(x, pattern);
+        try {
+            equal("SIZE of " + pattern, due, x.compile(0));
+        } catch (IllegalArgumentException | UnsupportedOperationException e) {
+            equal("compile " + pattern, due, e.getClass());
+        }
+    }
+
+    void noPattern(String... lines) {
+        for (String line : lines) {
+            PatternMachine x = new PatternMachine();
+            type(x, line);
+            fails("compile " + line, IllegalArgumentException.class, () -> x.compile(0));
+        }
+    }
+
+    void tooLarge(String line) {
+        PatternMachine x = new PatternMachine();
+        type(x, line);
+        fails("compile " + line, UnsupportedOperationException.class, () -> x.compile(0));
+    }
+
+    /** What is found from the beginning on. */
+    void found(String due, String pattern, String text) {
+        found(due, pattern, 0, text);
+    }
+
+    void found(String due, String pattern, int flags, String text) {
+        equal(pattern + " with " + flags + " in " + text, due, find(pattern, flags, text));
+    }
+
+    void matched(String due, String pattern, String text) {
+        PatternMachine x = machine(pattern, text);
+        boolean matches = x.matches();
+        equal(pattern + " matches " + text, due, caught(x));
+        equal(pattern + " matches " + text, !due.equals("none"), matches);
+    }
+
+    /** Which of all characters a one-character pattern takes, in the order of their codes. */
+    void takes(String due, String pattern, int flags) {
+        StringBuilder taken = new StringBuilder();
+        PatternMachine x = new PatternMachine();
+        compile(x, pattern, flags);
+        for (char c : ALL.toCharArray()) {
+            x.clear();
+            addText(x, String.valueOf(c));
+            if (x.matches()) {
+                taken.append(c);
+            }
+        }
+        equal(pattern + " with " + flags + " takes", due, taken.toString());
+    }
+
+    static String signs(int first, int last) {
+        StringBuilder signs = new StringBuilder();
+        for (int c = first; c <= last; c++) {
+            signs.append((char) c);
+        }
+        return signs.toString();
     }
 
     static PatternMachine machine(String pattern, int flags, String text) {
@@ -75,8 +147,8 @@ final class Checks {
 
     static String text(PatternMachine x) {
         StringBuilder text = new StringBuilder();
-        for (int i = 0; x.character(i) != -1; i++) {
-            text.append((char) x.character(i));
+        for (int c = x.character(0); c != -1; c = x.character(text.length())) {
+            text.append((char) c);
         }
         return text.toString();
     }
@@ -87,12 +159,20 @@ final class Checks {
             return "none";
         }
         StringBuilder all = new StringBuilder();
-        for (int k = 0; k <= x.look(0); k++) {
-            boolean there = x.group(k, false) != -1 || x.group(k, true) != -1;
+        int groups = x.look(0);
+        for (int k = 0; k <= groups; k++) {
+            String place = x.group(k, false) + "-" + x.group(k, true);
             all.append(k == 0 ? "" : " ");
-            all.append(there ? x.group(k, false) + "-" + x.group(k, true) : "-");
+            all.append(place.equals("-1--1") ? "-" : place);
         }
         return all.toString();
+    }
+
+    /** What stands in the line; the text is lost for it. */
+    static String lineOf(PatternMachine x) {
+        x.clear();
+        x.text();
+        return text(x);
     }
 
     static String find(PatternMachine x, int from) {

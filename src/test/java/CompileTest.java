@@ -1,149 +1,155 @@
-/** Promise 4: compile, what a PATTERN is, and its SIZE. */
+/** Promise 4: compile. Which lines are PATTERNs, and their SIZE, stand in TermsTest and MeaningTest. */
 final class CompileTest {
     private static final Checks checks = new Checks("CompileTest");
+    private static final String LARGEST = "(?:(?:aa{5}){4}){5}";
 
     public static void main(String[] args) {
-        sizesOfPatterns();
-        linesThatAreNoPatterns();
-        edgesOfTheLimits();
-        aRefusedLineChangesNothing();
-        aPatternThatIsTooLargeChangesNothing();
-        compileEmptiesTheLineAndForgets();
+        theLineBecomesThePattern();
         onlyTheLowestThreeFlagsCount();
+        theLineIsEmptyThen();
+        nothingHasBeenFoundThen();
+        anEmptyLineIsAPattern();
+        sizesUpTo120();
+        noPatternComesBeforeTooLarge();
+        whenNoPatternThePatternBeforeAndTheLineStay();
+        whenTooLargeThePatternBeforeAndTheLineStay();
+        withoutAPatternBeforeThereIsNoneBehindARefusal();
         checks.end();
     }
 
-    private static void size(int due, String pattern) {
-        PatternMachine x = new PatternMachine();
-        checks.equal("SIZE of " + pattern, due, Checks.compile(x, pattern, 0));
-    }
-
-    private static void refused(String line) {
-        PatternMachine x = new PatternMachine();
-        Checks.type(x, line);
-        checks.fails("compile " + line, IllegalArgumentException.class, () -> x.compile(0));
-    }
-
-    private static void tooLarge(String line) {
-        PatternMachine x = new PatternMachine();
-        Checks.type(x, line);
-        checks.fails("compile " + line, UnsupportedOperationException.class, () -> x.compile(0));
-    }
-
-    private static void sizesOfPatterns() {
-        size(0, "");
-        size(3, "abc");
-        size(5, "^a$\\b\\B");
-        size(4, ".[a-z]\\d\\.");
-        size(3, "(a)");
-        size(2, "()");
-        size(1, "(?:a)");
-        size(0, "(?:)");
-        size(4, "a|b");
-        size(7, "a|b|c");
-        size(4, "||");
-        size(2, "a?");
-        size(2, "a??");
-        size(3, "a*");
-        size(4, "a+");
-        size(4, "a+?");
-        size(0, "a{0}");
-        size(0, "(a){0}");
-        size(0, "a{0,0}");
-        size(5, "a{5}?");
-        size(3, "a{0,}");
-        size(8, "a{5,}");
-        size(2, "a{0,1}");
-        size(10, "a{0,5}");
-        size(8, "a{2,5}");
-        size(5, "a{5,5}");
-        size(8, "(a)+");
-        size(18, "(?:(ab)|c*){2}");
-        size(4, "()*");
-        size(3, "]}:");
-        size(4, "-,=\n");
-        size(3, " <>");
-    }
-
-    private static void linesThatAreNoPatterns() {
-        String[] lines = {
-            "*", "+", "?", "{", "{1}", "a**", "a*+", "a???", "a+??", "a{1}{2}", "a{2}??", "^*", "$+", "\\b?", "\\B{2}",
-            "a|*", "(*a)", "(?:+)", "(", ")", "(a", "a)", "(a))", "((a)", "(?", "(?:", "(?:a", "(?a)", "(?=a)", "(?)",
-            "a{", "a{}", "a{1", "a{1,", "a{1,2", "a{,2}", "a{6}", "a{6,}", "a{0,6}", "a{3,2}", "a{5,0}", "a{12}",
-            "a{1 }", "a{x}", "a{1,x}", "a{1,2,3}", "\\", "\\a", "\\q", "\\N", "\\0", "\\1", "\\ ", "\\\n", "a\\",
-            "[", "[]", "[^]", "[a", "[^a", "[a-", "[a-b", "[]a]", "[b-a]", "[a--]", "[\\D]", "[\\W]", "[\\S]", "[\\b]",
-            "[\\B]", "[\\q]", "[\\1]", "[\\ ]", "[\\]", "[\\", "[a\\", "[a]*+"
-        };
-        for (String line : lines) {
-            refused(line);
-        }
-    }
-
-    private static void edgesOfTheLimits() {
-        size(12, "(a)(b)(c)(d)");
-        refused("(a)(b)(c)(d)(e)");
-        size(9, "((((a))))");
-        refused("(((((a)))))");
-        size(9, "((((" + Checks.times("(?:", 4) + "a" + Checks.times(")", 8));
-        refused("((((" + Checks.times("(?:", 5) + "a" + Checks.times(")", 9));
-        size(1, Checks.times("(?:", 8) + "a" + Checks.times(")", 8));
-        refused(Checks.times("(?:", 9) + "a");
-        size(0, Checks.times("(?:)", 10));
-        size(40, Checks.times("a", 40));
-        size(80, Checks.times("|", 40));
-        size(120, "(?:(?:aa{5}){4}){5}");
-        tooLarge("(?:(?:aa{5}){4}){5}b");
-        size(120, "(?:(?:a{5}){4}){5}(?:a{5}){3}(a|)");
-        tooLarge("(?:(?:a{5}){4}){5}(?:a{5}){3}(a|b)");
-        tooLarge("(?:(?:(?:(?:a{5}){5}){5}){5}){5,}");
-        refused("(?:(?:(?:(?:a{5}){5}){5}){5}){5,})");
-        refused("(?:(?:(?:(?:a{5}){5}){5}){5}){5,6}");
-    }
-
-    private static void aRefusedLineChangesNothing() {
-        PatternMachine x = Checks.machine("(b)c", "abc");
-        x.find(0);
-        Checks.type(x, "(((a)b)");
-        checks.fails("compile", IllegalArgumentException.class, () -> x.compile(7));
-        checks.equal("line", 7, x.look(1));
-        checks.equal("groups", 1, x.look(0));
-        checks.equal("found", "1-3 1-2", Checks.caught(x));
-        checks.equal("the pattern before", "1-3 1-2", Checks.find(x, 0));
-        Checks.type(x, ")");
-        checks.equal("the line mended", 8, x.compile(0));
-        checks.equal("groups", 3, x.look(0));
-    }
-
-    private static void aPatternThatIsTooLargeChangesNothing() {
-        PatternMachine x = Checks.machine("(b)c", "abc");
-        x.find(0);
-        Checks.type(x, "(?:(?:a{5}){5}){5}");
-        checks.fails("compile", UnsupportedOperationException.class, () -> x.compile(0));
-        checks.equal("line", 18, x.look(1));
-        checks.equal("found", "1-3 1-2", Checks.caught(x));
-        checks.equal("the pattern before", "1-3 1-2", Checks.find(x, 0));
-        Checks.type(x, ")");
-        checks.fails("no pattern comes first", IllegalArgumentException.class, () -> x.compile(0));
-        x.text();
-        checks.equal("the line was kept", "abc(?:(?:a{5}){5}){5})", Checks.text(x));
-    }
-
-    private static void compileEmptiesTheLineAndForgets() {
-        PatternMachine x = Checks.machine("b", "abc");
-        x.find(0);
+    private static void theLineBecomesThePattern() {
+        checks.about("The line becomes the pattern");
+        PatternMachine x = Checks.machine("(a)(b)", "abc");
+        checks.equal("the first one", "0-2 0-1 1-2", Checks.find(x, 0));
         Checks.compile(x, "c", 0);
-        checks.equal("line", 0, x.look(1));
-        checks.equal("found", 0, x.look(3));
-        checks.fails("group", IllegalStateException.class, () -> x.group(0, false));
-        checks.equal("text stays", "abc", Checks.text(x));
-        checks.equal("an empty line is a pattern", 0, x.compile(0));
-        checks.equal("found everywhere", 4, x.count());
+        checks.equal("the next one", "2-3", Checks.find(x, 0));
+        checks.equal("its groups", 0, x.look(0));
+        checks.equal("the text stays", "abc", Checks.text(x));
     }
 
     private static void onlyTheLowestThreeFlagsCount() {
-        checks.equal("8 is no flag", "none", Checks.find("A", 8, "a"));
-        checks.equal("9 has 1", "0-1", Checks.find("A", 9, "a"));
+        checks.about("with flags (their lowest three bits)");
+        for (int flags = 0; flags < 8; flags++) {
+            for (int others : new int[] {0, 8, 16, 1 << 30, -8, Integer.MIN_VALUE}) {
+                checks.equal("1 in " + (flags | others), (flags & 1) != 0, Checks.machine("A", flags | others, "a").find(0));
+                checks.equal("2 in " + (flags | others), (flags & 2) != 0, Checks.machine("a$", flags | others, "a\n").find(0));
+                checks.equal("4 in " + (flags | others), (flags & 4) != 0, Checks.machine("a.", flags | others, "a\n").find(0));
+            }
+        }
         checks.equal("-1 has all", "0-2", Checks.find("A.$", -1, "a\n\nb"));
-        checks.equal("-8 has none", "none", Checks.find("A", -8, "a"));
+        checks.equal("the largest has all", "0-2", Checks.find("A.$", Integer.MAX_VALUE, "a\n\nb"));
+        PatternMachine x = Checks.machine("A", 1, "a");
+        Checks.compile(x, "A", 0);
+        checks.equal("the flags before count no more", false, x.find(0));
+    }
+
+    private static void theLineIsEmptyThen() {
+        checks.about("the line is empty then");
+        PatternMachine x = new PatternMachine();
+        Checks.compile(x, "abc", 0);
+        checks.equal("line", 0, x.look(1));
+        checks.equal("text", 0, x.text());
+        Checks.type(x, Checks.times("a", 40));
+        x.compile(0);
+        checks.equal("room for forty again", "", Checks.lineOf(x));
+        Checks.type(x, Checks.times("b", 40));
+        checks.equal("line", 40, x.look(1));
+    }
+
+    private static void nothingHasBeenFoundThen() {
+        checks.about("nothing has been found");
+        PatternMachine x = Checks.machine("b", "abc");
+        x.find(0);
+        Checks.compile(x, "b", 0);
+        checks.equal("found", 0, x.look(3));
+        checks.fails("group", IllegalStateException.class, () -> x.group(0, false));
+    }
+
+    private static void anEmptyLineIsAPattern() {
+        checks.about("An empty line is a pattern of SIZE 0");
+        PatternMachine x = new PatternMachine();
+        checks.equal("SIZE", 0, x.compile(0));
+        checks.equal("in nothing", "0-0", Checks.find(x, 0));
+        Checks.addText(x, "ab");
+        checks.equal("places", 3, x.count());
+        PatternMachine y = Checks.machine("(a)", "a");
+        checks.equal("instead of another", 0, y.compile(7));
+        checks.equal("groups", 0, y.look(0));
+    }
+
+    private static void sizesUpTo120() {
+        checks.about("UnsupportedOperationException: its SIZE is above 120");
+        checks.size(119, "(?:(?:aa{5}){4}){4}(?:a{4}){5}aaa");
+        checks.size(120, LARGEST);
+        checks.tooLarge(LARGEST + "a");
+        checks.tooLarge(LARGEST + "^");
+        checks.tooLarge(LARGEST + "()");
+        checks.tooLarge(LARGEST + "|");
+        checks.size(120, LARGEST + "(?:)a{0}(b){0}");
+        checks.size(120, "(?:(?:a{5}){4}){5}(?:a{5}){3}(a|)");
+        checks.tooLarge("(?:(?:a{5}){4}){5}(?:a{5}){3}(a|b)");
+        checks.tooLarge("(?:(?:a{5}){5}){4}(?:a{5}){4}a?");
+        checks.tooLarge("(?:(?:(?:(?:a{5}){5}){5}){5}){5,}");
+    }
+
+    private static void noPatternComesBeforeTooLarge() {
+        checks.about("IllegalArgumentException: it is no PATTERN; else UnsupportedOperationException");
+        checks.noPattern(LARGEST + "a)", LARGEST + "a(", LARGEST + "a\\", LARGEST + "aa{6}", LARGEST + "a[b-a]");
+        checks.noPattern("*" + LARGEST + "a", "(a)(b)(c)(d)(e)" + LARGEST + "a");
+        checks.noPattern("(?:(?:(?:(?:a{5}){5}){5}){5}){5,6}");
+    }
+
+    private static PatternMachine withAPattern() {
+        PatternMachine x = Checks.machine("(B)c", 1, "abc");
+        x.find(0);
+        return x;
+    }
+
+    private static void whenNoPatternThePatternBeforeAndTheLineStay() {
+        checks.about("when something is thrown the pattern before stays; no PATTERN (the line stays)");
+        PatternMachine x = withAPattern();
+        Checks.type(x, "(((a)b)");
+        checks.fails("compile", IllegalArgumentException.class, () -> x.compile(0));
+        checks.equal("line", 7, x.look(1));
+        checks.equal("groups", 1, x.look(0));
+        checks.equal("found", "1-3 1-2", Checks.caught(x));
+        checks.equal("the pattern before, with its flags", "1-3 1-2", Checks.find(x, 0));
+        checks.fails("once more", IllegalArgumentException.class, () -> x.compile(0));
+        Checks.type(x, ")");
+        checks.equal("the line mended", 8, x.compile(0));
+        checks.equal("groups", 3, x.look(0));
+        Checks.type(x, "(");
+        checks.fails("compile", IllegalArgumentException.class, () -> x.compile(0));
+        checks.equal("the line as it was", "(", Checks.lineOf(x));
+    }
+
+    private static void whenTooLargeThePatternBeforeAndTheLineStay() {
+        checks.about("when something is thrown the pattern before stays; SIZE is above 120 (the line stays)");
+        PatternMachine x = withAPattern();
+        Checks.type(x, "(?:(?:a{5}){5}){5}");
+        checks.fails("compile", UnsupportedOperationException.class, () -> x.compile(0));
+        checks.equal("line", 18, x.look(1));
+        checks.equal("groups", 1, x.look(0));
+        checks.equal("found", "1-3 1-2", Checks.caught(x));
+        checks.equal("the pattern before, with its flags", "1-3 1-2", Checks.find(x, 0));
+        checks.fails("once more", UnsupportedOperationException.class, () -> x.compile(0));
+        checks.equal("the line as it was", "(?:(?:a{5}){5}){5}", Checks.lineOf(x));
+    }
+
+    private static void withoutAPatternBeforeThereIsNoneBehindARefusal() {
+        checks.about("when something is thrown the pattern before stays");
+        for (String line : new String[] {"(a))", LARGEST + "(a)"}) {
+            PatternMachine x = new PatternMachine();
+            Checks.type(x, line);
+            try {
+                x.compile(0);
+            } catch (IllegalArgumentException | UnsupportedOperationException e) {
+                checks.equal("line", line.length(), x.look(1));
+            }
+            checks.equal("groups behind " + line, 0, x.look(0));
+            checks.fails("find behind " + line, IllegalStateException.class, () -> x.find(0));
+            checks.fails("matches behind " + line, IllegalStateException.class, () -> x.matches());
+            checks.fails("count behind " + line, IllegalStateException.class, () -> x.count());
+        }
     }
 }

@@ -83,7 +83,7 @@ final class FaceTest {
     private static void dearCalls(PatternMachine x) {
         Checks.addText(x, "aaaaaaaaaaaaaaaaaaaaaaaaaaaaaaaaaaaaaaaa");
         Checks.compile(x, "(?:(?:(?:(?:(a*)*)*)*)*)*b|a", 0);
-        for (int i = 0; i < 400; i++) {
+        for (int i = 0; i < 100; i++) {
             x.count();
             x.piece(i % 40, -1);
             x.find(0);

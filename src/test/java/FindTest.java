@@ -1,301 +1,190 @@
-/** Promises 7 to 9: find, matches, group; with what atoms, sets, assertions, flags, counts and groups mean. */
+/** Promises 7 to 9: find, matches, group. */
 final class FindTest {
     private static final Checks checks = new Checks("FindTest");
+    private static final String FULL = Checks.times("a", 80);
 
     public static void main(String[] args) {
         findGoesFromAPlaceOn();
+        findSeesWhatStandsBefore();
+        findForgetsIfNot();
+        findNeedsAPattern();
         findRefusesPlacesOutside();
+        findThatThrowsLeavesAll();
         matchesGoesFromTheBeginningToTheEnd();
-        matchesPrefersTheFirstSuchWay();
-        groupRefusesWhatIsNotThere();
-        atoms();
-        sets();
-        assertions();
-        letterCase();
-        otherFlags();
-        orderOfPreference();
-        countsInOrder();
-        emptyTurns();
-        groupsCatch();
-        hardPatternsEnd();
+        matchesFindsTheFirstSuchWay();
+        matchesForgetsIfNot();
+        matchesNeedsAPattern();
+        groupTellsBeginAndEnd();
+        groupNeedsSomethingFound();
+        groupRefusesOtherNumbers();
         checks.end();
     }
 
-    private static void found(String due, String pattern, String text) {
-        checks.equal(pattern + " in " + text, due, Checks.find(pattern, 0, text));
-    }
-
-    private static void found(String due, String pattern, int flags, String text) {
-        checks.equal(pattern + " with " + flags + " in " + text, due, Checks.find(pattern, flags, text));
-    }
-
-    private static void matched(String due, String pattern, String text) {
-        PatternMachine x = Checks.machine(pattern, text);
-        boolean matches = x.matches();
-        checks.equal(pattern + " matches " + text, due, Checks.caught(x));
-        checks.equal(pattern + " matches " + text, !due.equals("none"), matches);
-    }
-
-    /** Which of all characters a one-character pattern takes, in the order of their codes. */
-    private static void takes(String due, String pattern, int flags) {
-        StringBuilder taken = new StringBuilder();
-        for (char c = 10; c <= 126; c = c == 10 ? 32 : (char) (c + 1)) {
-            PatternMachine x = Checks.machine(pattern, flags, String.valueOf(c));
-            if (x.matches()) {
-                taken.append(c);
-            }
-        }
-        checks.equal(pattern + " with " + flags + " takes", due, taken.toString());
-    }
-
-    private static String signs(int first, int last) {
-        StringBuilder signs = new StringBuilder();
-        for (int c = first; c <= last; c++) {
-            signs.append((char) c);
-        }
-        return signs.toString();
-    }
-
     private static void findGoesFromAPlaceOn() {
+        checks.about("find: Whether the pattern is FOUND from a place on");
         PatternMachine x = Checks.machine("a(b)?", "xabxa");
+        checks.equal("find", true, x.find(0));
         checks.equal("from 0", "1-3 2-3", Checks.find(x, 0));
         checks.equal("from 1", "1-3 2-3", Checks.find(x, 1));
         checks.equal("from 2", "4-5 -", Checks.find(x, 2));
+        checks.equal("from 4", "4-5 -", Checks.find(x, 4));
         checks.equal("at the end", false, x.find(5));
-        checks.equal("forgotten", 0, x.look(3));
-        checks.fails("group", IllegalStateException.class, () -> x.group(0, false));
-        checks.equal("found", true, x.find(4));
-        PatternMachine empty = Checks.machine("", "");
-        checks.equal("nothing in nothing", "0-0", Checks.find(empty, 0));
+        checks.equal("nothing in nothing", "0-0", Checks.find(Checks.machine("", ""), 0));
+        checks.equal("something in nothing", "none", Checks.find(Checks.machine("a", ""), 0));
         checks.equal("nothing at the end", "3-3", Checks.find(Checks.machine("", "abc"), 3));
-        PatternMachine context = Checks.machine("^b|\\Bb|\\bb", "ab");
-        checks.equal("what stands before the place is seen", "1-2", Checks.find(context, 1));
-        checks.equal("^ is not at the place", "none", Checks.find(Checks.machine("^b", "ab"), 1));
-        checks.equal("\\b is not at the place", "none", Checks.find(Checks.machine("\\bb", "ab"), 1));
+        Checks.type(x, "line");
+        x.find(0);
+        checks.equal("text stays", "xabxa", Checks.text(x));
+        checks.equal("line stays", "line", Checks.lineOf(x));
+    }
+
+    private static void findSeesWhatStandsBefore() {
+        checks.about("^ is at the beginning; \\b: one of the characters before and behind is a w");
+        checks.equal("^", "none", Checks.find(Checks.machine("^b", "ab"), 1));
+        checks.equal("\\b", "none", Checks.find(Checks.machine("\\bb", "ab"), 1));
+        checks.equal("\\B", "1-2", Checks.find(Checks.machine("\\Bb", "ab"), 1));
+        checks.equal("^ behind a 10", "2-3", Checks.find(Checks.machine("^b", 2, "a\nb"), 2));
+    }
+
+    private static void findForgetsIfNot() {
+        checks.about("find: what was found is forgotten if not");
+        PatternMachine x = Checks.machine("a", "ab");
+        x.find(0);
+        checks.equal("find", false, x.find(1));
+        checks.equal("found", 0, x.look(3));
+        checks.fails("group", IllegalStateException.class, () -> x.group(0, false));
+        checks.equal("again", true, x.find(0));
+        checks.equal("found again", "0-1", Checks.caught(x));
+    }
+
+    private static void findNeedsAPattern() {
+        checks.about("find: IllegalStateException: there is no pattern; else IndexOutOfBoundsException");
+        PatternMachine x = new PatternMachine();
+        Checks.addText(x, "abc");
+        Checks.type(x, "a");
+        for (int from : new int[] {0, 3, -1, 4, Integer.MIN_VALUE, Integer.MAX_VALUE}) {
+            checks.fails("find " + from, IllegalStateException.class, () -> x.find(from));
+        }
+        checks.equal("text stays", "abc", Checks.text(x));
+        checks.equal("line stays", "a", Checks.lineOf(x));
     }
 
     private static void findRefusesPlacesOutside() {
-        PatternMachine x = Checks.machine("a", "aaa");
-        x.find(1);
-        int[] outside = {-1, 4, 80, 81, Integer.MIN_VALUE, Integer.MAX_VALUE};
-        for (int from : outside) {
-            checks.fails("find " + from, IndexOutOfBoundsException.class, () -> x.find(from));
+        checks.about("find: IndexOutOfBoundsException: from is not 0 .. the length of the text");
+        for (int length : new int[] {0, 1, 3, 79, 80}) {
+            PatternMachine x = Checks.machine("", FULL.substring(0, length));
+            checks.equal("the first place", "0-0", Checks.find(x, 0));
+            checks.equal("the last place", length + "-" + length, Checks.find(x, length));
+            int[] outside = {-1, length + 1, length + 2, 81, 1000, Integer.MIN_VALUE, Integer.MAX_VALUE};
+            for (int from : outside) {
+                checks.fails("find " + from, IndexOutOfBoundsException.class, () -> x.find(from));
+            }
         }
-        checks.equal("found stays", "1-2", Checks.caught(x));
-        PatternMachine full = Checks.machine("$", Checks.times("a", 80));
-        checks.equal("the last place", "80-80", Checks.find(full, 80));
-        checks.fails("find 81", IndexOutOfBoundsException.class, () -> full.find(81));
+    }
+
+    private static void findThatThrowsLeavesAll() {
+        checks.about("find: what was found is forgotten if not (nothing is said of a place outside)");
+        PatternMachine x = Checks.machine("(a)", "xa");
+        x.find(0);
+        Checks.type(x, "line");
+        checks.fails("find", IndexOutOfBoundsException.class, () -> x.find(3));
+        checks.equal("found stays", "1-2 1-2", Checks.caught(x));
+        checks.equal("text stays", "xa", Checks.text(x));
+        checks.equal("pattern stays", "1-2 1-2", Checks.find(x, 1));
+        checks.equal("line stays", "line", Checks.lineOf(x));
     }
 
     private static void matchesGoesFromTheBeginningToTheEnd() {
-        matched("0-3", "abc", "abc");
-        matched("none", "ab", "abc");
-        matched("none", "bc", "abc");
-        matched("0-0", "", "");
-        matched("none", "", "a");
-        matched("0-80", ".*", Checks.times("a", 80));
+        checks.about("Whether there is a way from the beginning of the text to its end");
+        checks.matched("0-3", "abc", "abc");
+        checks.matched("none", "ab", "abc");
+        checks.matched("none", "bc", "abc");
+        checks.matched("none", "abcd", "abc");
+        checks.matched("0-0", "", "");
+        checks.matched("none", "", "a");
+        checks.matched("none", "a", "");
+        checks.matched("0-80", ".*", FULL);
+        checks.matched("none", ".*b", FULL);
+        PatternMachine x = Checks.machine("a*", "aa");
+        Checks.type(x, "line");
+        x.matches();
+        checks.equal("text stays", "aa", Checks.text(x));
+        checks.equal("line stays", "line", Checks.lineOf(x));
+    }
+
+    private static void matchesFindsTheFirstSuchWay() {
+        checks.about("the first such one is found then");
+        checks.matched("0-2 0-2", "(a|ab)", "ab");
+        checks.matched("0-4 0-1 1-4 4-4", "(a|ab)(c|bcd)(d*)", "abcd");
+        checks.matched("0-3 0-0 0-3", "(a*?)(a*)", "aaa");
+        checks.matched("0-3 0-3 3-3", "(a*)(a*)", "aaa");
+        checks.matched("0-3", "a*?", "aaa");
+        checks.matched("0-2 0-2 - 0-2", "((a)|(ab))", "ab");
+    }
+
+    private static void matchesForgetsIfNot() {
+        checks.about("else what was found is forgotten");
         PatternMachine x = Checks.machine("a", "ab");
         x.find(0);
         checks.equal("matches", false, x.matches());
-        checks.equal("forgotten", 0, x.look(3));
+        checks.equal("found", 0, x.look(3));
+        checks.fails("group", IllegalStateException.class, () -> x.group(0, false));
     }
 
-    private static void matchesPrefersTheFirstSuchWay() {
-        matched("0-2 0-2", "(a|ab)", "ab");
-        matched("0-4 0-1 1-4 4-4", "(a|ab)(c|bcd)(d*)", "abcd");
-        matched("0-3 0-0 0-3", "(a*?)(a*)", "aaa");
-        matched("0-3", "a*?", "aaa");
-        matched("0-2 0-2 - 0-2", "((a)|(ab))", "ab");
+    private static void matchesNeedsAPattern() {
+        checks.about("matches: IllegalStateException: there is no pattern");
+        PatternMachine x = new PatternMachine();
+        checks.fails("matches", IllegalStateException.class, () -> x.matches());
+        Checks.addText(x, "a");
+        Checks.type(x, "a");
+        checks.fails("matches", IllegalStateException.class, () -> x.matches());
+        checks.equal("text stays", "a", Checks.text(x));
+        x.compile(0);
+        checks.equal("with one", true, x.matches());
     }
 
-    private static void groupRefusesWhatIsNotThere() {
-        PatternMachine x = Checks.machine("(a)|(b)", "xb");
-        checks.fails("nothing found yet", IllegalStateException.class, () -> x.group(9, false));
+    private static void groupTellsBeginAndEnd() {
+        checks.about("Where a group of what was found begins, or ends; 0 is the whole; -1 if it is not there");
+        PatternMachine x = Checks.machine("(a)|b(c)", "xbc");
         x.find(0);
         checks.equal("begin of the whole", 1, x.group(0, false));
-        checks.equal("end of the whole", 2, x.group(0, true));
+        checks.equal("end of the whole", 3, x.group(0, true));
         checks.equal("begin of one that is not there", -1, x.group(1, false));
         checks.equal("end of one that is not there", -1, x.group(1, true));
-        checks.equal("begin", 1, x.group(2, false));
-        checks.equal("end", 2, x.group(2, true));
-        int[] others = {-1, 3, 4, 5, Integer.MIN_VALUE, Integer.MAX_VALUE};
-        for (int k : others) {
-            checks.fails("group " + k, IndexOutOfBoundsException.class, () -> x.group(k, true));
-        }
-        checks.equal("found stays", "1-2 - 1-2", Checks.caught(x));
-        x.count();
-        checks.fails("nothing found", IllegalStateException.class, () -> x.group(0, false));
+        checks.equal("begin", 2, x.group(2, false));
+        checks.equal("end", 3, x.group(2, true));
+        checks.equal("found stays", 1, x.look(3));
+        PatternMachine full = Checks.machine("()a*()", FULL);
+        full.matches();
+        checks.equal("from one end to the other", "0-80 0-0 80-80", Checks.caught(full));
     }
 
-    private static void atoms() {
-        String digits = signs('0', '9');
-        String words = digits + signs('A', 'Z') + "_" + signs('a', 'z');
-        String all = "\n" + signs(32, 126);
-        takes("a", "a", 0);
-        takes(digits, "\\d", 0);
-        takes(words, "\\w", 0);
-        takes("\n ", "\\s", 0);
-        takes(all.replaceAll("[0-9]", ""), "\\D", 0);
-        takes(all.replaceAll("[0-9A-Za-z_]", ""), "\\W", 0);
-        takes(signs(33, 126), "\\S", 0);
-        takes("\n", "\\n", 0);
-        takes("\n", "\n", 0);
-        takes(signs(32, 126), ".", 0);
-        takes(all, ".", 4);
-        takes(" ", " ", 0);
-        for (char c : "!\"#$%&'()*+,-./:;<=>?@[\\]^_`{|}~".toCharArray()) {
-            takes(String.valueOf(c), "\\" + c, 0);
-        }
-        for (char c : "!\"#%&',-/:;<=>@]_`}~".toCharArray()) {
-            takes(String.valueOf(c), String.valueOf(c), 0);
+    private static void groupNeedsSomethingFound() {
+        checks.about("group: IllegalStateException: nothing was found; else IndexOutOfBoundsException");
+        PatternMachine without = new PatternMachine();
+        PatternMachine notYet = Checks.machine("(a)", "a");
+        PatternMachine notFound = Checks.machine("(a)", "b");
+        notFound.find(0);
+        for (int k : new int[] {0, 1, -1, 2, 5, Integer.MIN_VALUE, Integer.MAX_VALUE}) {
+            checks.fails("no pattern, group " + k, IllegalStateException.class, () -> without.group(k, false));
+            checks.fails("nothing sought, group " + k, IllegalStateException.class, () -> notYet.group(k, true));
+            checks.fails("not found, group " + k, IllegalStateException.class, () -> notFound.group(k, false));
         }
     }
 
-    private static void sets() {
-        String all = "\n" + signs(32, 126);
-        takes("abc", "[cab]", 0);
-        takes("cdef", "[c-f]", 0);
-        takes("c", "[c-c]", 0);
-        takes(all.replaceAll("[c-f]", ""), "[^c-f]", 0);
-        takes("-a", "[-a]", 0);
-        takes("-a", "[a-]", 0);
-        takes("-", "[-]", 0);
-        takes("-", "[--]", 0);
-        takes("-./", "[--/]", 0);
-        takes("+,-", "[+--]", 0);
-        takes(all.replaceAll("[-a]", ""), "[^-a]", 0);
-        takes(all.replaceAll("[a^]", ""), "[^a^]", 0);
-        takes("^a", "[a^]", 0);
-        takes("$()*+.?[{|", "[[({)*+?.|$]", 0);
-        takes("\n ", "[\\s]", 0);
-        takes("\n0123456789", "[\\d\\n]", 0);
-        takes("-\\]", "[\\]\\-\\\\]", 0);
-        takes("-0123456789", "[\\d-]", 0);
-        takes("\n ", "[ \n]", 0);
-        takes("-0123456789a", "[\\d-a]", 0);
-        takes("-0123456789a", "[a-\\d]", 0);
-        takes("-abce", "[a-c-e]", 0);
-    }
-
-    private static void assertions() {
-        found("0-1", "^a", "a\na");
-        found("2-3", "^a", 2, "b\na");
-        found("none", "^a", 0, "b\na");
-        found("2-3", "a$", "a\na");
-        found("0-1", "a$", 2, "a\na");
-        found("none", "a$", "a\n");
-        found("0-1", "a$", 2, "a\n");
-        found("2-2", "^$", 2, "a\n");
-        found("none", "^$", 0, "a\n");
-        found("0-0", "^$", 0, "");
-        found("2-3", "\\ba", "_ a");
-        found("1-2", "a\\b", "aa a");
-        found("0-0", "\\b", "a");
-        found("1-1", "\\b", " a ");
-        found("none", "\\b", "");
-        found("none", "\\b", " ;");
-        found("0-0", "\\B", "");
-        found("0-0", "\\B", " a");
-        found("1-1", "\\B", "ab");
-        found("none", "\\B", "a");
-    }
-
-    private static void letterCase() {
-        takes("Aa", "a", 1);
-        takes("Aa", "A", 1);
-        takes("ABCabc", "[a-c]", 1);
-        takes("ABCabc", "[A-C]", 1);
-        takes("1_", "[1_]", 1);
-        takes("@ABab", "[@-B]", 1);
-        takes("AB`ab", "[`-b]", 1);
-        String all = "\n" + signs(32, 126);
-        takes(all.replaceAll("[aA]", ""), "[^a]", 1);
-        takes(all.replaceAll("[a]", ""), "[^a]", 0);
-        takes(all.replaceAll("[A-Za-z0-9_]", ""), "\\W", 1);
-        takes("[", "\\[", 1);
-        takes("{", "\\{", 1);
-    }
-
-    private static void otherFlags() {
-        found("none", "a.b", 3, "a\nb");
-        found("0-3", "a.b", 4, "a\nb");
-        found("none", "A", 6, "a");
-    }
-
-    private static void orderOfPreference() {
-        found("0-1", "a|ab", "ab");
-        found("0-2", "ab|a", "ab");
-        found("0-0", "|a", "a");
-        found("1-2", "b", "ab");
-        found("0-2 0-1 1-2", "(a|ab)(b|)", "ab");
-        found("0-1 0-0", "(|a)a", "a");
-        found("0-1", "a(?:b*c)?", "abbd");
-        found("0-4", "a(?:b*c)?", "abbc");
-        found("1-2", "aab|a", "caac");
-    }
-
-    private static void countsInOrder() {
-        found("0-3", "a*", "aaa");
-        found("0-0", "a*?", "aaa");
-        found("0-3", "a+", "aaa");
-        found("0-1", "a+?", "aaa");
-        found("0-1", "a?", "aaa");
-        found("0-0", "a??", "aaa");
-        found("0-2", "a{2}", "aaa");
-        found("0-2", "a{2}?", "aaa");
-        found("0-3", "a{2,}", "aaa");
-        found("0-2", "a{2,}?", "aaa");
-        found("0-3", "a{1,3}", "aaaa");
-        found("0-1", "a{1,3}?", "aaaa");
-        found("none", "a{4}", "aaa");
-        found("0-0", "a{0}", "aaa");
-        found("0-5", "a{5}", "aaaaaa");
-        found("0-4", "a{1,3}?b", "aaab");
-        found("1-5", "a{1,3}?b", "aaaab");
-    }
-
-    private static void emptyTurns() {
-        found("0-0 -", "(a*)*", "b");
-        found("0-0 0-0", "(a*)+", "b");
-        found("0-0 0-0", "(a*)?", "b");
-        found("0-0 -", "(a*)??", "b");
-        found("0-2 0-2", "(a*)*", "aab");
-        found("0-2 0-2", "(a*)+", "aab");
-        found("0-1 0-1", "(a|b*)*", "a");
-        found("0-0 -", "(|a)*", "b");
-        found("0-2 1-2", "(|a)*", "aa");
-        found("0-2 1-2", "(|a)+", "aa");
-        found("0-0 0-0", "(|a)+?", "aa");
-        found("0-2 2-2", "(a|){3}", "aa");
-        found("0-0 -", "()*", "a");
-        found("0-0 0-0", "(){2,}", "a");
-        found("0-3", "(?:b*?)*", "bbb");
-        found("0-4 3-4", "(.*?)*", "aaba");
-        found("0-2 -", "(?:()*a)+", "aa");
-        found("0-1 0-1 -", "(|()*c)+", "c");
-    }
-
-    private static void groupsCatch() {
-        found("0-4 0-2 0-1 3-4", "((a).)(?:.)(b)", "axxb");
-        found("0-3 2-3", "(.)*", "abc");
-        found("0-2 1-2 0-1", "((a)|b)*", "ab");
-        found("0-3 - 2-3", "(x)?(?:a|(b))*", "aab");
-        found("0-1 - -", "(?:(b)|a|(c)){1}", "a");
-        found("0-1 - 0-1", "(a){0}(b)", "b");
-        found("0-2 1-2", "(a){2}", "aa");
-        found("1-2 1-2", "(b)", "ab");
-        found("0-4 0-4 0-4 0-4 0-4", "((((a*))))", "aaaa");
-    }
-
-    private static void hardPatternsEnd() {
-        String text = Checks.times("a", 80);
-        found("none", "(a*)*b", text);
-        found("none", "(?:a|a)*b", text);
-        found("none", "(?:(?:(?:(?:a*)*)*)*)*b", text);
-        found("none", "(?:(?:(?:(?:(?:(?:(a*)*)*)*)*)*)*)*b", text);
-        found("0-80 0-80", "((?:a?){5}a*)*", text);
-        matched("none", "(?:a{0,5}){5}", text);
-        PatternMachine x = Checks.machine("(?:a|.*.*.*.*.*b)", text);
-        checks.equal("count", 80, x.count());
+    private static void groupRefusesOtherNumbers() {
+        checks.about("group: IndexOutOfBoundsException: the pattern has no such group");
+        for (int groups = 0; groups <= 4; groups++) {
+            PatternMachine x = Checks.machine(Checks.times("(a)", groups), FULL);
+            x.find(0);
+            String before = Checks.caught(x);
+            checks.equal("the last one ends", groups, x.group(groups, true));
+            int[] others = {-1, groups + 1, 5, 6, Integer.MIN_VALUE, Integer.MAX_VALUE};
+            for (int k : others) {
+                checks.fails(k + " of " + groups, IndexOutOfBoundsException.class, () -> x.group(k, false));
+                checks.fails(k + " of " + groups, IndexOutOfBoundsException.class, () -> x.group(k, true));
+            }
+            checks.equal("found stays", before, Checks.caught(x));
+        }
     }
 }

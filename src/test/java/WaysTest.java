@@ -23,18 +23,17 @@ final class WaysTest {
     }
 
     private static void tryPattern(Ways.Pattern pattern, Ways.Maker maker) {
-        PatternMachine x = new PatternMachine();
         int flags = maker.flags();
-        Checks.type(x, pattern.written());
         if (pattern.size() > 120) {
-            checks.fails(pattern.written(), UnsupportedOperationException.class, () -> x.compile(flags));
+            checks.tooLarge(pattern.written());
             return;
         }
-        checks.equal("SIZE of " + pattern.written(), (int) pattern.size(), x.compile(flags));
-        checks.equal("groups of " + pattern.written(), maker.groups, x.look(0));
         for (int i = 0; i < 4; i++) {
+            PatternMachine x = new PatternMachine();
+            Checks.type(x, pattern.written());
+            checks.equal("SIZE of " + pattern.written(), (int) pattern.size(), x.compile(flags));
+            checks.equal("groups of " + pattern.written(), maker.groups, x.look(0));
             Ways ways = new Ways(maker.text(i == 3 ? 20 : 6), flags);
-            x.clear();
             Checks.addText(x, ways.text);
             try {
                 tryText(x, pattern, ways);
