@@ -192,7 +192,7 @@ public final class PatternMachine {
         int begin = 0;
         int passed = 0;
         boolean more = machine.search(0, false);
-        while (passed < n && more) {
+        while (passed < n && passed <= TEXT_ROOM && more) {
             begin = machine.endOf(0);
             more = machine.search(machine.goOn(), false);
             passed++;

@@ -175,6 +175,10 @@ final class Checks {
         return text(x);
     }
 
+    static boolean matches(String pattern, String text) {
+        return machine(pattern, text).matches();
+    }
+
     static String find(PatternMachine x, int from) {
         x.find(from);
         return caught(x);

@@ -5,6 +5,7 @@ final class CompileTest {
 
     public static void main(String[] args) {
         theLineBecomesThePattern();
+        nothingIsLeftOfThePatternBefore();
         onlyTheLowestThreeFlagsCount();
         theLineIsEmptyThen();
         nothingHasBeenFoundThen();
@@ -25,6 +26,35 @@ final class CompileTest {
         checks.equal("the next one", "2-3", Checks.find(x, 0));
         checks.equal("its groups", 0, x.look(0));
         checks.equal("the text stays", "abc", Checks.text(x));
+    }
+
+    private static void nothingIsLeftOfThePatternBefore() {
+        checks.about("The line becomes the pattern");
+        String[] lines = {
+            "ab", "a", "", "abc", "a|b", "a|b|c", "(a)(b)(c)", "(?:a|b)*", "a{2,4}?", "[^a]", "1", "\\b.", "a*?", "(a", "b)", LARGEST
+        };
+        for (String before : lines) {
+            for (String line : lines) {
+                PatternMachine x = new PatternMachine();
+                PatternMachine fresh = new PatternMachine();
+                answered(x, before);
+                checks.equal(line + " behind " + before, answered(fresh, line), answered(x, line));
+            }
+        }
+    }
+
+    private static String answered(PatternMachine x, String line) {
+        x.wipe();
+        Checks.type(x, line);
+        String answer;
+        try {
+            answer = "SIZE " + x.compile(0);
+        } catch (IllegalArgumentException e) {
+            return "no pattern";
+        }
+        x.clear();
+        Checks.addText(x, "abcaab1");
+        return answer + ", " + x.look(0) + " groups, " + Checks.find(x, 0) + ", " + x.count();
     }
 
     private static void onlyTheLowestThreeFlagsCount() {

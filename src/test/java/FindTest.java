@@ -7,6 +7,7 @@ final class FindTest {
         findGoesFromAPlaceOn();
         findSeesWhatStandsBefore();
         findForgetsIfNot();
+        nothingIsLeftOfTheFindBefore();
         findNeedsAPattern();
         findRefusesPlacesOutside();
         findThatThrowsLeavesAll();
@@ -55,6 +56,26 @@ final class FindTest {
         checks.fails("group", IllegalStateException.class, () -> x.group(0, false));
         checks.equal("again", true, x.find(0));
         checks.equal("found again", "0-1", Checks.caught(x));
+    }
+
+    private static void nothingIsLeftOfTheFindBefore() {
+        checks.about("A pattern is FOUND from a place on: the least place from there on from which it has a way");
+        String text = "ab\nab";
+        for (String pattern : new String[] {"a?$()|", "(a)|b", "(a*)(b)?", "b$|", "(?:a?\\b(b)|)", "(a)?\\B()|b", "^(a)|$"}) {
+            for (int before = 0; before <= text.length(); before++) {
+                for (int from = 0; from <= text.length(); from++) {
+                    PatternMachine x = Checks.machine(pattern, text);
+                    x.find(before);
+                    String due = Checks.find(Checks.machine(pattern, text), from);
+                    checks.equal(pattern + " from " + from + " behind " + before, due, Checks.find(x, from));
+                    x.matches();
+                    checks.equal(pattern + " from " + from + " behind matches", due, Checks.find(x, from));
+                }
+            }
+        }
+        PatternMachine x = Checks.machine("a?$()|", "ab");
+        checks.equal("not at the end", "0-0 -", Checks.find(x, 0));
+        checks.equal("at the end", "2-2 2-2", Checks.find(x, 2));
     }
 
     private static void findNeedsAPattern() {

@@ -6,6 +6,7 @@ final class MeaningTest {
     private static final String LONG = Checks.times("a", 80);
 
     public static void main(String[] args) {
+        oneCharacterAfterTheOther();
         classesOfCharacters();
         escapedSigns();
         sets();
@@ -40,6 +41,24 @@ final class MeaningTest {
 
     private static String without(String regex) {
         return Checks.ALL.replaceAll(regex, "");
+    }
+
+    private static void oneCharacterAfterTheOther() {
+        checks.about("An ATOM for one character has one way, if the next one is so");
+        String[] atoms = {"1", "a", "\\d", "\\w", "\\s", "[0-9]", "[a-z]", "[^a]", "[^0]", ".", "\\D", "-", "\\n", "[?@]"};
+        String signs = "1a \n-b0?@";
+        for (String first : atoms) {
+            for (String second : atoms) {
+                for (char c : signs.toCharArray()) {
+                    for (char d : signs.toCharArray()) {
+                        boolean due = Checks.matches(first, "" + c) && Checks.matches(second, "" + d);
+                        checks.equal(first + second + " in " + c + d, due, Checks.matches(first + second, "" + c + d));
+                    }
+                }
+            }
+        }
+        checks.found("none", "1a", "11");
+        checks.found("none", "a1", "aa");
     }
 
     private static void classesOfCharacters() {
@@ -407,5 +426,8 @@ final class MeaningTest {
         checks.found("0-80 0-80", "((?:a?){5}a*)*", LONG);
         checks.matched("none", "(?:a{0,5}){5}", LONG);
         checks.equal("count", 80, Checks.machine("(?:a|.*.*.*.*.*b)", LONG).count());
+        checks.found("0-40", "(?:a|a)*b|a*c", Checks.times("a", 39) + "c");
+        checks.found("0-80", "(?:a?a?)*b|a*", LONG);
+        checks.found("0-80 79-80", "(?:(?:a|a)*)*b|(a)*", LONG);
     }
 }

@@ -38,6 +38,7 @@ final class RunsTest {
     }
 
     public static void main(String[] args) {
+        theLastPromisedCallIsAnswered();
         int left = 0;
         for (int seed = FIRST; seed < FIRST + RUNS; seed++) {
             RunsTest run = new RunsTest(seed);
@@ -50,6 +51,20 @@ final class RunsTest {
         checks.equal("most runs came to their end", true, left < RUNS / 10);
         checks.equal("many calls were refused", true, thrown > 2 * RUNS);
         checks.end();
+    }
+
+    private static void theLastPromisedCallIsAnswered() {
+        checks.about("An object is used for at most 512 calls after it has been made");
+        PatternMachine x = new PatternMachine();
+        Checks.addText(x, "ba");
+        Checks.compile(x, "(a)", 0);
+        int made = 7;
+        while (made < 511) {
+            checks.equal("find", true, x.find(made % 2));
+            made++;
+        }
+        checks.equal("the 512th call", 2, x.group(1, true));
+        checks.about("all promises, in runs made by chance");
     }
 
     private void go() {
