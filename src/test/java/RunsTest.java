@@ -1,4 +1,3 @@
-import java.util.ArrayList;
 import java.util.List;
 import java.util.NoSuchElementException;
 import java.util.Random;
@@ -242,17 +241,7 @@ final class RunsTest {
     }
 
     private List<int[]> places() {
-        List<int[]> places = new ArrayList<>();
-        int from = 0;
-        while (from <= text.length()) {
-            int[] place = new Ways(text, flags).find(pattern, from);
-            if (place == null) {
-                break;
-            }
-            places.add(place);
-            from = place[1] > place[0] ? place[1] : place[1] + 1;
-        }
-        return places;
+        return new Ways(text, flags).places(pattern);
     }
 
     private void countAll() {

@@ -60,6 +60,21 @@ final class Ways {
         return found[0];
     }
 
+    /** All that is found one after the other. */
+    List<int[]> places(Part pattern) {
+        List<int[]> places = new ArrayList<>();
+        int from = 0;
+        while (from <= text.length()) {
+            int[] place = find(pattern, from);
+            if (place == null) {
+                break;
+            }
+            places.add(place);
+            from = place[1] > place[0] ? place[1] : place[1] + 1;
+        }
+        return places;
+    }
+
     private void step() {
         steps++;
         if (steps > 200_000) {

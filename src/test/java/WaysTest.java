@@ -1,4 +1,3 @@
-import java.util.ArrayList;
 import java.util.List;
 
 /** Promises 4 and 7 to 12 for many patterns and texts made by chance, against the ways tried one by one. */
@@ -53,7 +52,7 @@ final class WaysTest {
         int[] due = ways.first(pattern, 0, true);
         checks.equal("matches of " + what, due != null, x.matches());
         checks.equal("matches of " + what, shown(due, x.look(0)), Checks.caught(x));
-        tryPlaces(x, places(pattern, ways), ways.text, what);
+        tryPlaces(x, ways.places(pattern), ways.text, what);
     }
 
     private static void tryPlaces(PatternMachine x, List<int[]> places, String text, String what) {
@@ -76,20 +75,6 @@ final class WaysTest {
         checks.equal("places replaced of " + what, places.size(), count);
         String due = replaced.substring(0, Math.min(80, replaced.length()));
         checks.equal("replaced of " + what, due, Checks.text(x));
-    }
-
-    private static List<int[]> places(Ways.Pattern pattern, Ways ways) {
-        List<int[]> places = new ArrayList<>();
-        int from = 0;
-        while (from <= ways.text.length()) {
-            int[] place = ways.find(pattern, from);
-            if (place == null) {
-                break;
-            }
-            places.add(place);
-            from = place[1] > place[0] ? place[1] : place[1] + 1;
-        }
-        return places;
     }
 
     private static String shown(int[] slots, int groups) {
