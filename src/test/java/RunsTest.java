@@ -8,7 +8,7 @@ final class RunsTest {
     private static final int RUNS = Integer.getInteger("runs", 20_000);
     private static final int FIRST = Integer.getInteger("first", 0);
     // An object is promised to answer 512 calls; the last ones are kept for a look at all of it.
-    private static final int MOST_CALLS = 360;
+    private static final int MOST_CALLS = 330;
 
     private static final String[] NO_PATTERNS = {
         "(", ")", "a**", "[", "[b-a]", "a{6}", "\\", "(?a)", "(a)(b)(c)(d)(e)", "a|*", "^*", "(?:(?:a{5}){5}){5}{5}"
